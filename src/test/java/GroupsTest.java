@@ -84,13 +84,13 @@ public final class GroupsTest {
     private static void eachInAGroupOfItsOwn(Expect expect) {
         GroupCursors x = new GroupCursors();
         for (int i = 0; i < 300; i++) {
-            x.add(-i, i, -i);
+            x.add(-1 - i, i, -i);
         }
         x.commit();
         x.view();
         expect.due("groups(0)", 300, () -> x.groups(0));
-        expect.due("group(0, 0, 0, 299)", 0, () -> x.group(0, 0, 0, 299));
-        expect.due("group(0, 1, 0, 299)", -299, () -> x.group(0, 1, 0, 299));
+        expect.due("group(0, 0, 0, 299)", -1, () -> x.group(0, 0, 0, 299));
+        expect.due("group(0, 1, 0, 299)", -300, () -> x.group(0, 1, 0, 299));
         expect.due("counted(0, 1, 0, 150)", 1, () -> x.counted(0, 1, 0, 150));
         expect.noIndex("group 300", () -> x.group(0, 0, 0, 300));
     }

@@ -7,6 +7,7 @@ public final class HitsTest {
         for (int i = 0; i < objects.length; i++) {
             int k = i;
             expect.due("hit(0, " + kind + ", " + seed + ", " + k + ")", objects[k], () -> x.hit(0, kind, seed, k));
+            x.hit(0, (kind + 1) % 3, seed + 1, 0);
             expect.due("place(0, " + kind + ", " + seed + ", " + objects[k] + ")", k, () -> x.place(0, kind, seed, objects[k]));
         }
         expect.noIndex("the hit behind the last", () -> x.hit(0, kind, seed, objects.length));
@@ -37,7 +38,7 @@ public final class HitsTest {
     private static void byMix(Expect expect, long seed) {
         GroupCursors x = new GroupCursors();
         List<Integer> due = new ArrayList<>();
-        long[] keys = new long[60];
+        long[] keys = new long[50];
         for (int i = 0; i < keys.length; i++) {
             keys[i] = i % 3 == 0 ? i / 6 : -i * 1000003L;
             x.add(i, keys[i], -i);

@@ -116,6 +116,8 @@ public final class ReadersTest {
         expect.due("iterator of a group when full", GroupCursors.FULL, () -> x.iterator(0, 0, 0, 1));
         expect.badArgument("a wrong cursor when full", () -> x.cursor(0, 0, 0, 1, 1, 1));
         expect.noIndex("a wrong iterator when full", () -> x.iterator(0, 0, 0, 3));
+        expect.noIndex("left(60) when full", () -> x.left(60));
+        expect.due("tick(1) when full", 0, () -> x.tick(1));
         x.close(0);
         expect.due("ended ones still count", GroupCursors.FULL, () -> x.cursor(0, 0, 0, 1, 0, 1));
         expect.due("told(8)", 60, () -> x.told(8));

@@ -15,6 +15,7 @@ public final class ViewsTest {
             expect.due("view number " + i, i, () -> x.view());
         }
         expect.due("view() when full", GroupCursors.FULL, () -> x.view());
+        expect.noIndex("state(30) when full", () -> x.state(30));
         expect.due("segment(0, 2)", 30, () -> x.segment(0, 2));
         expect.due("letGo(29)", 0, () -> x.letGo(29));
         expect.due("ENDED ones still count: view()", GroupCursors.FULL, () -> x.view());
