@@ -27,6 +27,13 @@ final class Expect {
         due(call, want ? 1 : 0, () -> made.answer() ? 1 : 0);
     }
 
+    void dueText(String call, String got, String want) {
+        asked++;
+        if (!got.equals(want)) {
+            report(call, got, want);
+        }
+    }
+
     /** The class must be the very one: what the machine throws is often a class below it. */
     void fails(String call, Class<? extends RuntimeException> want, Call made) {
         asked++;

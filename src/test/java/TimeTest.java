@@ -78,15 +78,26 @@ public final class TimeTest {
         expect.due("told(10) then", 10000, () -> x.told(10));
     }
 
-    /** More calls than the document promises anything for: it must still never go beyond the last NOW. */
+    /** 512 calls do not go so far; no other test makes more calls than the document promises answers for. */
     private static void lastNow(Expect expect) {
-        GroupCursors x = new GroupCursors();
-        for (int i = 0; i < 100000; i++) {
+        GroupCursors x = withView();
+        for (int i = 0; i < 99999; i++) {
             x.tick(10000);
         }
-        expect.due("told(10)", 1000000000, () -> x.told(10));
-        expect.badArgument("tick(1)", () -> x.tick(1));
+        expect.due("tick(9999)", 0, () -> x.tick(9999));
+        x.cursor(0, 0, 0, 1, 0, 1);
+        x.cursor(0, 0, 0, 1, 0, 1000);
+        expect.badArgument("tick(2): NOW would be 1000000001", () -> x.tick(2));
+        expect.badArgument("tick(10000)", () -> x.tick(10000));
+        expect.due("told(10): a tick that throws changes nothing", 999999999, () -> x.told(10));
+        expect.due("told(9)", 2, () -> x.told(9));
+        expect.due("tick(1): NOW may be 1000000000", 0, () -> x.tick(1));
+        expect.due("told(10) then", 1000000000, () -> x.told(10));
+        expect.badArgument("tick(1) again", () -> x.tick(1));
         expect.due("tick(0)", 0, () -> x.tick(0));
+        expect.due("left(0): NOW is its END", 2, () -> x.left(0));
+        expect.due("take(1, 1): an END above the last NOW", 1, () -> x.take(1, 1));
+        expect.due("told(10) at last", 1000000000, () -> x.told(10));
     }
 
     private static void dueTold(Expect expect, GroupCursors x, int... answers) {
