@@ -38,7 +38,7 @@ public final class GroupCursors {
 
     private final Store store = new Store();
     private final Segments segments = new Segments();
-    private final Ranking ranking = new Ranking(store);
+    private final Ranking ranking = new Ranking();
     private final View[] views = new View[MOST_VIEWS];
     private final Reader[] readers = new Reader[MOST_READERS];
     private final int[] pageRow = new int[MOST_TAKEN];
@@ -136,7 +136,7 @@ public final class GroupCursors {
         }
         int[] objects = store.settled();
         boolean[] seen = segments.watchLive();
-        views[viewCount] = new View(objects, ranking.countGroups(objects), seen);
+        views[viewCount] = new View(objects, ranking.countGroups(store, objects), seen);
         viewCount++;
         return viewCount - 1;
     }
@@ -164,7 +164,7 @@ public final class GroupCursors {
             throw new IndexOutOfBoundsException("no such hit");
         }
         checkKind(kind);
-        ranking.arrange(v, kind, seed);
+        ranking.arrange(store, v, kind, seed);
         return ranking.at(k);
     }
 
@@ -174,7 +174,7 @@ public final class GroupCursors {
             throw new IndexOutOfBoundsException("no such object");
         }
         checkKind(kind);
-        ranking.arrange(v, kind, seed);
+        ranking.arrange(store, v, kind, seed);
         return ranking.placeOf(object);
     }
 
@@ -213,7 +213,7 @@ public final class GroupCursors {
         if (v.standing() != OPEN) {
             throw new IllegalStateException("the view is not open");
         }
-        ranking.arrange(v, kind, seed);
+        ranking.arrange(store, v, kind, seed);
         ranking.keepSlice(slices, slice);
         return openReader(v, keep);
     }
@@ -223,7 +223,7 @@ public final class GroupCursors {
         View v = viewAt(view);
         if (k == ALL_GROUPS) {
             checkKind(kind);
-            ranking.arrange(v, kind, seed);
+            ranking.arrange(store, v, kind, seed);
         } else {
             rankGroup(v, kind, seed, k);
         }
@@ -365,7 +365,7 @@ public final class GroupCursors {
             throw new IndexOutOfBoundsException("no such group");
         }
         checkKind(kind);
-        ranking.arrange(v, kind, seed);
+        ranking.arrange(store, v, kind, seed);
         ranking.keepGroup(ranking.groupAt(k));
     }
 
@@ -688,18 +688,18 @@ public final class GroupCursors {
         }
     }
 
-    /** Puts objects in an ORDER, in rows that are made once and used again by every call. */
+    /**
+     * Puts objects in an ORDER, in rows that are made once and used again by every call. What it must know of an object
+     * it copies from the store: were it made with the store in hand, the outer constructor would give away a part of its object.
+     */
     private static final class Ranking {
-        private final Store store;
         private final long[] scores = new long[MOST_OBJECTS];
+        private final long[] keys = new long[MOST_OBJECTS];
+        private final int[] groups = new int[MOST_OBJECTS];
         private final boolean[] met = new boolean[MOST_OBJECTS];
         private int[] row = new int[MOST_OBJECTS];
         private int[] spare = new int[MOST_OBJECTS];
         private int count = 0;
-
-        Ranking(Store store) {
-            this.store = store;
-        }
 
         int count() {
             return count;
@@ -723,8 +723,8 @@ public final class GroupCursors {
         }
 
         /** Holds the HITS of a VIEW then, in the ORDER. */
-        void arrange(View v, int kind, long seed) {
-            fill(v, kind, seed);
+        void arrange(Store store, View v, int kind, long seed) {
+            fill(store, v, kind, seed);
             for (int width = 1; width < count; width *= 2) {
                 for (int from = 0; from < count; from += 2 * width) {
                     joinRuns(from, Math.min(from + width, count), Math.min(from + 2 * width, count));
@@ -735,41 +735,54 @@ public final class GroupCursors {
             }
         }
 
-        private void fill(View v, int kind, long seed) {
+        private void fill(Store store, View v, int kind, long seed) {
             count = 0;
             for (int i = 0; i < v.objectCount() && count < row.length; i++) {
                 int object = v.objectAt(i);
-                if (store.has(object)) {
-                    scores[object] = scoreOf(object, kind, seed);
+                if (hasRoomFor(object)) {
+                    keys[object] = store.keyOf(object);
+                    groups[object] = store.groupOf(object);
+                    scores[object] = scoreOf(keys[object], store.sortOf(object), kind, seed);
                     row[count] = object;
                     count++;
                 }
             }
         }
 
+        private static boolean hasRoomFor(int object) {
+            return object >= 0 && object < MOST_OBJECTS;
+        }
+
         /** The lesser score comes first in every kind: a turned SORT puts the greater first, a turned sign leaves the MIX without one. */
-        private long scoreOf(int object, int kind, long seed) {
+        private static long scoreOf(long key, long sort, int kind, long seed) {
             if (kind == LESSER_SORT) {
-                return store.sortOf(object);
+                return sort;
             }
             if (kind == GREATER_SORT) {
-                return ~store.sortOf(object);
+                return ~sort;
             }
-            return mix(store.keyOf(object), seed) ^ SIGN;
+            return mix(key, seed) ^ SIGN;
         }
 
         private boolean comesBefore(int a, int b) {
-            if (scoreAt(a) != scoreAt(b)) {
-                return scoreAt(a) < scoreAt(b);
+            if (!hasRoomFor(a) || !hasRoomFor(b)) {
+                return false;
             }
-            if (store.keyOf(a) != store.keyOf(b)) {
-                return store.keyOf(a) < store.keyOf(b);
+            if (scores[a] != scores[b]) {
+                return scores[a] < scores[b];
+            }
+            if (keys[a] != keys[b]) {
+                return keys[a] < keys[b];
             }
             return a < b;
         }
 
-        private long scoreAt(int object) {
-            return object >= 0 && object < scores.length ? scores[object] : 0;
+        private long keyOf(int object) {
+            return hasRoomFor(object) ? keys[object] : 0;
+        }
+
+        private int groupOf(int object) {
+            return hasRoomFor(object) ? groups[object] : NONE;
         }
 
         /** Joins two sorted runs of the row that lie side by side, into the spare row. */
@@ -802,7 +815,7 @@ public final class GroupCursors {
             return true;
         }
 
-        int countGroups(int[] objects) {
+        int countGroups(Store store, int[] objects) {
             forgetMet();
             int many = 0;
             for (int i = 0; i < objects.length; i++) {
@@ -818,7 +831,7 @@ public final class GroupCursors {
             forgetMet();
             int passed = 0;
             for (int i = 0; i < count; i++) {
-                int group = store.groupOf(row[i]);
+                int group = groupOf(row[i]);
                 if (isNewlyMet(group)) {
                     if (passed == k) {
                         return group;
@@ -832,7 +845,7 @@ public final class GroupCursors {
         void keepGroup(int group) {
             int kept = 0;
             for (int i = 0; i < count; i++) {
-                if (store.groupOf(row[i]) == group) {
+                if (groupOf(row[i]) == group) {
                     row[kept] = row[i];
                     kept++;
                 }
@@ -843,7 +856,7 @@ public final class GroupCursors {
         void keepSlice(int slices, int slice) {
             int kept = 0;
             for (int i = 0; i < count; i++) {
-                if (remainder(mix(store.keyOf(row[i]), 0), slices) == slice) {
+                if (remainder(mix(keyOf(row[i]), 0), slices) == slice) {
                     row[kept] = row[i];
                     kept++;
                 }

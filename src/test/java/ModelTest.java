@@ -445,7 +445,7 @@ public final class ModelTest {
         return oneOf(many);
     }
 
-    private static String outcome(Expect.Call call) {
+    static String outcome(Expect.Call call) {
         try {
             return String.valueOf(call.answer());
         } catch (RuntimeException e) {
